@@ -1652,8 +1652,10 @@ public final class HerbKey {
 
         int weightOfAll(long couplets) {
             int sum = 0;
-            for (int c = 0; couplets != 0 && c < count; c++) {
-                if ((couplets >> c & 1) != 0) sum += weightOf(c);
+            long left = couplets;
+            for (int c = 0; left != 0 && c < count; c++) {
+                if ((left & 1) != 0) sum += weightOf(c);
+                left >>>= 1;
             }
             return sum;
         }

@@ -164,7 +164,7 @@ public final class HerbKey {
         if (kind < 0 || kind >= ROW_KINDS) return refuse(NO_PART);
         if (n < -1 || n > MOST_PLACES) return refuse(BAD_NUMBER);
         Sheet changed = old.twin();
-        changed.rows[kind] = n < 0 ? null : new long[n];
+        changed.putLine(kind, n < 0 ? null : new long[n]);
         putSheet(sheet, changed);
         return grant(n);
     }
@@ -700,12 +700,12 @@ public final class HerbKey {
 
     private void putCell(int sheet, int kind, int place, long value) {
         Sheet s = sheetAt(sheet);
-        if (s == null || !s.hasPlace(kind, place)) return;
+        if (s == null) return;
         Change change = remember(CELL, sheet);
         change.part = kind;
         change.side = place;
-        change.old = s.rows[kind][place];
-        s.rows[kind][place] = value;
+        change.old = s.at(kind, place);
+        s.put(kind, place, value);
     }
 
     private void takeBack(Change change) {
@@ -717,9 +717,7 @@ public final class HerbKey {
             keysMade = (int) change.old;
         } else if (change.what == CELL) {
             Sheet s = sheetAt(change.at);
-            if (s != null && s.hasPlace(change.part, change.side)) {
-                s.rows[change.part][change.side] = change.old;
-            }
+            if (s != null) s.put(change.part, change.side, change.old);
         } else {
             Key k = keyAt(change.at);
             if (k != null) k.putBack(change);
@@ -747,31 +745,51 @@ public final class HerbKey {
 
     /** A SHEET's three ROWS, null where missing, and the arithmetic of MEASURES. */
     private static final class Sheet {
-        final long[][] rows;
-
-        Sheet() {
-            rows = new long[ROW_KINDS][];
-        }
+        long[] states;
+        long[] measures;
+        long[] codes;
 
         /** Shares the ROWS: CHANGES are taken back in order, so the older one finds them as they were. */
         Sheet twin() {
             Sheet other = new Sheet();
-            for (int kind = 0; kind < ROW_KINDS; kind++) {
-                other.rows[kind] = rows[kind];
-            }
+            other.states = states;
+            other.measures = measures;
+            other.codes = codes;
             return other;
         }
 
+        long[] line(int kind) {
+            return kind == STATES ? states : kind == MEASURES ? measures : kind == CODES ? codes : null;
+        }
+
+        void putLine(int kind, long[] line) {
+            if (kind == STATES) {
+                states = line;
+            } else if (kind == MEASURES) {
+                measures = line;
+            } else if (kind == CODES) {
+                codes = line;
+            }
+        }
+
         boolean hasPlace(int kind, int place) {
-            if (kind < 0 || kind >= ROW_KINDS) return false;
-            long[] line = rows[kind];
+            long[] line = line(kind);
             return line != null && place >= 0 && place < line.length;
+        }
+
+        long at(int kind, int place) {
+            long[] line = line(kind);
+            return line != null && place >= 0 && place < line.length ? line[place] : 0;
+        }
+
+        void put(int kind, int place, long value) {
+            long[] line = line(kind);
+            if (line != null && place >= 0 && place < line.length) line[place] = value;
         }
 
         /** What read() tells of a place that there is. */
         long shown(int kind, int place) {
-            if (!hasPlace(kind, place)) return BAD;
-            long v = rows[kind][place];
+            long v = at(kind, place);
             if (kind != MEASURES) return v;
             if (v == NONE) return 0;
             if (v == ABOVE) return MOST_LONG;
@@ -782,16 +800,16 @@ public final class HerbKey {
         int fillFrom(Sheet other) {
             int came = 0;
             for (int kind = 0; kind < ROW_KINDS; kind++) {
-                long[] mine = rows[kind];
-                long[] theirs = other.rows[kind];
+                long[] mine = line(kind);
+                long[] theirs = other.line(kind);
                 if (theirs == null) continue;
                 if (mine == null) {
-                    rows[kind] = theirs.clone();
+                    putLine(kind, theirs.clone());
                     came++;
                 } else if (kind == MEASURES) {
                     // The twin that stays behind for undo() still holds the old ROW.
-                    rows[kind] = mine.clone();
-                    came += fillMeasures(rows[kind], theirs);
+                    measures = mine.clone();
+                    came += fillMeasures(measures, theirs);
                 }
             }
             return came;
@@ -810,7 +828,7 @@ public final class HerbKey {
 
         long fold(long d) {
             for (int kind = 0; kind < ROW_KINDS; kind++) {
-                long[] line = rows[kind];
+                long[] line = line(kind);
                 d = d * 31 + (line == null ? -1 : line.length);
                 for (int place = 0; line != null && place < line.length; place++) {
                     d = d * 31 + shown(kind, place);
@@ -1181,9 +1199,9 @@ public final class HerbKey {
             int ask = asks[c];
             if (ask >= ASK_GIVES) return replyOfKey(c, keys);
             int kind = ask == ASK_STATE ? STATES : ask == ASK_CODE ? CODES : MEASURES;
-            if (sheet.rows[kind] == null) return -ROW_IS_MISSING;
+            if (sheet.line(kind) == null) return -ROW_IS_MISSING;
             if (!sheet.hasPlace(kind, ps[c])) return -PLACE_IS_NONE;
-            long value = sheet.rows[kind][ps[c]];
+            long value = sheet.at(kind, ps[c]);
             if (kind != MEASURES) return value == qs[c] ? YES : NO;
             if (value == NONE) return -MEASURE_IS_NONE;
             if (value == ABOVE || value == BELOW) return -MEASURE_IS_ENDLESS;

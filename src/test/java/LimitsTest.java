@@ -17,6 +17,7 @@ public final class LimitsTest {
         chainUpwards();
         bigTable();
         bigWeights();
+        bigSlack();
         strangeCalls();
         System.out.println(wrong == 0 ? "the limits hold" : wrong + " answers are not as due");
         if (wrong != 0) System.exit(1);
@@ -152,6 +153,42 @@ public final class LimitsTest {
         for (int c = 1; c < 33; c++) x.want(0, 5, c, 1);
         is("more than all slack", x.parted(0, 5, 6), 1);
         is("score", x.score(0, 0, 5), 0);
+    }
+
+    /** Two names that want many couplets alike: some of their weights must come close to the slack. */
+    private static void bigSlack() {
+        Random random = new Random(11);
+        for (int run = 0; run < 300; run++) {
+            HerbKey x = new HerbKey();
+            x.key(3);
+            int slack = random.nextInt(100);
+            x.slack(0, slack);
+            int alike = random.nextInt(30);
+            int least = run % 2 == 0 ? 1 : 7;
+            boolean[] sums = new boolean[400];
+            sums[0] = true;
+            for (int c = 0; c < alike; c++) {
+                int w = least + random.nextInt(10 - least);
+                x.couplet(0, 0, 0, 1, 0);
+                x.weigh(0, c, w);
+                x.want(0, 1, c, c % 2);
+                x.want(0, 2, c, c % 2);
+                for (int s = 399; s >= w; s--) sums[s] |= sums[s - w];
+            }
+            int apart = random.nextInt(4);
+            x.couplet(0, 0, 0, 1, 0);
+            x.weigh(0, alike, apart);
+            x.want(0, 1 + run % 2, alike, 1);
+            x.want(0, 2 - run % 2, alike, run % 3);
+            boolean told = false;
+            for (int s = 0; s <= slack; s++) {
+                if (sums[s] && s + apart > slack) told = true;
+            }
+            if (run % 3 == 1) told = false;
+            if (alike == 0 && run % 3 == 2) told = true;
+            is("parted, run " + run, x.parted(0, 1, 2), told ? 1 : 0);
+            is("parted, run " + run, x.parted(0, 2, 1), told ? 1 : 0);
+        }
     }
 
     /** Calls with any numbers, far beyond the 512th, must all answer. */

@@ -117,6 +117,8 @@ public final class PromiseTest {
         well("number not used again", x, x.sheet(), 2);
         well("lose", x, x.lose(1), 1);
         well("lose", x, x.lose(2), 0);
+        x = seen();
+        well("sheet 0 counts", x, x.lose(1), 1);
     }
 
     private static void row() {
@@ -407,6 +409,10 @@ public final class PromiseTest {
         well("all but 10", x, x.region(0, ~(1L << 10)), 63);
         is("not given", x.names(0, 0), 0);
         well("10 alone", x, x.region(0, 1L << 10), 1);
+        is("given", x.names(0, 0), 1);
+        x.lead(0, 1, true, 100);
+        is("name 0 is not in it", x.names(0, 0), 0);
+        well("name 0 alone", x, x.region(0, 1), 1);
         is("given", x.names(0, 0), 1);
         well("none", x, x.region(0, 0), 0);
         well("all", x, x.region(0, -1L), 64);
@@ -794,7 +800,35 @@ public final class PromiseTest {
         x.lead(0, 0, true, 107);
         well("both ways to it", x, x.pick(0), 1);
         is("yes", x.proof(0), 3);
+        x = keyed(0, 5);
+        x.row(0, 0, 4);
+        for (int c = 0; c < 4; c++) x.lead(0, c, false, c + 1);
+        x.lead(0, 3, false, 107);
+        x.names(0, 0);
+        well("by no", x, x.pick(0), 4);
+        is("no", x.proof(3), 12);
+        fewestUnknowns();
         sources();
+    }
+
+    /** A longer way with one UNKNOWN, by NO, and a shorter one with two, by YES. */
+    private static void fewestUnknowns() {
+        HerbKey x = seen();
+        x.key(0);
+        int[] places = {9, 9, 0, 1, 0};
+        for (int p : places) x.couplet(0, 0, p, 1, 0);
+        x.lead(0, 0, true, 1);
+        x.lead(0, 1, true, 100);
+        x.lead(0, 0, false, 2);
+        x.lead(0, 2, true, 3);
+        x.lead(0, 3, true, 4);
+        x.lead(0, 4, true, 100);
+        x.names(0, 0);
+        is("one unknown", x.unknowns(0), 1);
+        well("the longer way", x, x.pick(0), 4);
+        int[] entries = {2, 9, 13, 17};
+        for (int j = 0; j < 4; j++) is("entry", x.proof(j), entries[j]);
+        well("right", x, x.check(), 1);
     }
 
     private static void sources() {
@@ -904,6 +938,28 @@ public final class PromiseTest {
         for (int i = x.changes(); i > 5; i--) x.undo();
         x.key(4);
         well("a joined one of its number", x, x.check(), 0);
+        checkMarks();
+    }
+
+    /** Both leads go to the name, so that marks alone decide. */
+    private static void checkMarks() {
+        int[][] due = {{1, 0, 0, 0}, {0, 1, 0, 0}, {0, 0, 1, 1}};
+        for (int answer = 0; answer < 3; answer++) {
+            HerbKey x = keyed(0, 1);
+            x.lead(0, 0, true, 100);
+            x.lead(0, 0, false, 100);
+            x.state(0, 0, answer);
+            if (answer == 2) x.row(0, 0, 0);
+            x.names(0, 0);
+            well("pick", x, x.pick(0), 1);
+            well("right", x, x.check(), 1);
+            for (int mark = 0; mark < 4; mark++) {
+                x.forge(0, mark);
+                well("answer " + answer + ", mark " + mark, x, x.check(), due[answer][mark]);
+            }
+            x.forge(0, 4);
+            well("no couplet 1", x, x.check(), 0);
+        }
     }
 
     private static void checkTables() {
@@ -919,9 +975,13 @@ public final class PromiseTest {
         x.weigh(0, 2, 2);
         well("beyond slack", x, x.check(), 0);
         x.undo();
+        x.slack(0, 99);
         x.forge(2, 18);
         well("taken, but not as wanted", x, x.check(), 0);
+        x.forge(2, 17);
+        well("1, but unknown", x, x.check(), 0);
         x.forge(2, 19);
+        x.undo();
         x.forge(1, 5);
         well("one that is not wanted", x, x.check(), 0);
         x.forge(1, 8);
@@ -948,6 +1008,9 @@ public final class PromiseTest {
         HerbKey x = tree(0);
         well("one alone", x, x.sure(0, 0), 10);
         well("several", x, x.sure(0, 1), BAD);
+        x.lead(0, 1, true, 100);
+        well("name 0", x, x.sure(0, 0), 0);
+        x.undo();
         x.lead(0, 1, false, 110);
         x.lead(0, 2, true, 110);
         x.lead(0, 2, false, 110);
@@ -1111,6 +1174,9 @@ public final class PromiseTest {
         HerbKey x = tree(1);
         x.key(4);
         well("all parted", x, x.twins(0), 0);
+        x.lead(0, 0, false, 120);
+        well("two never come to", x, x.twins(0), 1);
+        x.undo();
         x.region(0, 1L << 10);
         well("three beyond the region", x, x.twins(0), 3);
         x.couplet(0, 0, 0, 0, 0);

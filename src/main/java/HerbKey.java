@@ -11,6 +11,8 @@ public final class HerbKey {
     private static final int MOST_KEYS = 40;
     private static final int MOST_COUPLETS = 40;
     private static final int MOST_PLACES = 40;
+    // Of a Walk, which goes among KEYS or among COUPLETS.
+    private static final int MOST_STOPS = 40;
     private static final int NAMES = 64;
     // An object is used for 512 calls at most, so no promised call ever meets this bound.
     private static final int MOST_CHANGES = 512;
@@ -909,30 +911,32 @@ public final class HerbKey {
         }
     }
 
-    /** Goes from one of up to 40 numbered things to all that come behind it; there are no rings. */
+    /** Goes from a stop, which is a KEY or a COUPLET, to all that come behind it; there are no rings. */
     private static final class Walk {
+        // Of each stop those to which it leads at once, a bit each.
         final long[] onward;
-        // Each thing stands behind all that it leads to, so the start is the last one.
+        // The stops come to: each stands behind all to which it leads, so the start is the last one.
         final int[] order;
+        // The stops between the start and where the walk is.
         final int[] open;
         long seen;
         int count;
 
         Walk() {
-            onward = new long[MOST_COUPLETS];
-            order = new int[MOST_COUPLETS];
-            open = new int[MOST_COUPLETS];
+            onward = new long[MOST_STOPS];
+            order = new int[MOST_STOPS];
+            open = new int[MOST_STOPS];
         }
 
         void from(int start) {
             seen = 0;
             count = 0;
-            if (start < 0 || start >= MOST_COUPLETS) return;
+            if (start < 0 || start >= MOST_STOPS) return;
             int top = 0;
             open[0] = start;
             seen = 1L << start;
-            // Each thing is opened once and closed once.
-            for (int step = 0; step < 2 * MOST_COUPLETS && top >= 0; step++) {
+            // Each stop is opened once and closed once.
+            for (int step = 0; step < 2 * MOST_STOPS && top >= 0; step++) {
                 int here = open[top];
                 long fresh = onward[here] & ~seen;
                 if (fresh == 0) {
@@ -948,7 +952,7 @@ public final class HerbKey {
         }
 
         boolean hasSeen(int i) {
-            return i >= 0 && i < MOST_COUPLETS && (seen >> i & 1) != 0;
+            return i >= 0 && i < MOST_STOPS && (seen >> i & 1) != 0;
         }
 
         /** The number of the lowest bit that is set: 64 if none is. */

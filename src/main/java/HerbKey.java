@@ -635,8 +635,10 @@ public final class HerbKey {
     private Coupled sourceOf(Key key, int name) {
         Key at = key;
         // Each step goes down to a KEY that is asked, and no KEY asks itself.
-        for (int step = 0; step < MOST_KEYS && at instanceof Joined; step++) {
-            at = keyAt(at.source(name, keys));
+        for (int step = 0; step < MOST_KEYS && at != null; step++) {
+            int source = at.source(name, keys);
+            if (source == at.number) break;
+            at = keyAt(source);
         }
         return at instanceof Coupled k ? k : null;
     }
@@ -1008,7 +1010,7 @@ public final class HerbKey {
         void hear(Sheet sheet, Key[] keys) {
         }
 
-        /** The KEY from which THE ROW of a NAME comes. */
+        /** The KEY from which THE ROW of a NAME comes, or one that is nearer to it. */
         int source(int name, Key[] keys) {
             return number;
         }

@@ -1404,7 +1404,7 @@ public final class HerbKey {
         /** Counts for each COUPLET the fewest UNKNOWNS from it to a NAME. */
         final void countTo(int name) {
             int n = walkFrom(0);
-            Arrays.fill(counted, NEVER);
+            // From the ends on, each COUPLET behind all to which it leads.
             for (int i = 0; i < n; i++) {
                 int c = ways.order[i];
                 int byNo = isYes(c) ? NEVER : countedAt(noLeads[c], name);

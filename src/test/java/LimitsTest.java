@@ -164,7 +164,7 @@ public final class LimitsTest {
             int slack = random.nextInt(100);
             x.slack(0, slack);
             int alike = random.nextInt(30);
-            int least = run % 2 == 0 ? 1 : 7;
+            int least = run % 2 == 0 ? 0 : 7;
             boolean[] sums = new boolean[400];
             sums[0] = true;
             for (int c = 0; c < alike; c++) {

@@ -44,6 +44,7 @@ public final class EdgeTest {
         sure();
         scoreMayBeBad();
         nextOfTwoNumbers();
+        nextOfAllNames();
         nextTies();
         nextNone();
         compare();
@@ -52,6 +53,7 @@ public final class EdgeTest {
         parts();
         trace();
         undoAll();
+        undoOfTheFirst();
         undoKeepsRowAndProof();
         changesAsBefore();
         changesOfEach();
@@ -291,24 +293,30 @@ public final class EdgeTest {
 
     private static void mergeMeasures() {
         Due.by("in other MEASURES each NONE becomes what b has at that PLACE, if there is one, and it is not NONE.");
-        for (int ofA = 1; ofA <= 4; ofA++) {
-            for (int ofB = 0; ofB <= 4; ofB++) {
-                HerbKey x = new HerbKey();
-                x.sheet();
-                x.sheet();
-                x.row(0, 1, ofA);
-                x.row(1, 1, ofB);
-                for (int p = 0; p < ofA; p++) x.lack(0, p, 0);
-                for (int p = 0; p < ofB; p++) if (p < 3) x.lack(1, p, p); else x.measure(1, p, 6, -1);
-                int both = Math.min(ofA, ofB);
-                int due = Math.max(0, both - 1);
-                Due.well(ofA + " of " + ofB, x, x.merge(0, 1), due);
-                long[] reads = {0, Long.MAX_VALUE, Long.MIN_VALUE, 24};
-                for (int p = 0; p < ofA; p++) Due.well("place " + p, x, x.read(0, 1, p), p < both ? reads[p] : 0);
-                Due.refused("no place more", x, x.read(0, 1, ofA), 3);
-                x.undo();
-                for (int p = 0; p < ofA; p++) Due.well("taken back, place " + p, x, x.read(0, 1, p), 0);
-                Due.well("again", x, x.merge(0, 1), due);
+        // At place p of b stands what number (p + turn) % 4 of these tells: NONE, above, below, 3.
+        long[] reads = {0, Long.MAX_VALUE, Long.MIN_VALUE, 24};
+        for (int turn = 0; turn < 4; turn++) {
+            for (int ofA = 1; ofA <= 5; ofA++) {
+                for (int ofB = 0; ofB <= 5; ofB++) {
+                    HerbKey x = new HerbKey();
+                    x.sheet();
+                    x.sheet();
+                    x.row(0, 1, ofA);
+                    x.row(1, 1, ofB);
+                    for (int p = 0; p < ofA; p++) x.lack(0, p, 0);
+                    for (int p = 0; p < ofB; p++) {
+                        if ((p + turn) % 4 < 3) x.lack(1, p, (p + turn) % 4); else x.measure(1, p, 6, -1);
+                    }
+                    int both = Math.min(ofA, ofB);
+                    int due = 0;
+                    for (int p = 0; p < both; p++) if ((p + turn) % 4 != 0) due++;
+                    Due.well(ofA + " of " + ofB, x, x.merge(0, 1), due);
+                    for (int p = 0; p < ofA; p++) Due.well("place " + p, x, x.read(0, 1, p), p < both ? reads[(p + turn) % 4] : 0);
+                    Due.refused("no place more", x, x.read(0, 1, ofA), 3);
+                    x.undo();
+                    for (int p = 0; p < ofA; p++) Due.well("taken back, place " + p, x, x.read(0, 1, p), 0);
+                    Due.well("again", x, x.merge(0, 1), due);
+                }
             }
         }
         HerbKey x = new HerbKey();
@@ -794,6 +802,30 @@ public final class EdgeTest {
         Due.well("1 is beyond slack", x, x.next(0, 0), 1);
     }
 
+    private static void nextOfAllNames() {
+        Due.by("how many NAMES the KEY would give if this one were answered YES, and NO, the others as they are.");
+        HerbKey x = house(0, 2, 2);
+        for (int n = 0; n < 64; n++) x.want(0, n, 0, 1);
+        Due.well("64 and 0, or 64 and 64: the first", x, x.next(0, 0), 0);
+        x.want(0, 63, 1, 1);
+        Due.well("64 and 0, or 64 and 63: the first", x, x.next(0, 0), 0);
+        x.want(0, 63, 0, 2);
+        Due.well("64 and 1, or 64 and 63: the first", x, x.next(0, 0), 0);
+        x.want(0, 63, 0, 0);
+        Due.well("63 and 1, or 64 and 63", x, x.next(0, 0), 0);
+        x.want(0, 0, 1, 0);
+        Due.well("63 and 1, or 63 and 63: the first", x, x.next(0, 0), 0);
+        x.want(0, 1, 1, 0);
+        Due.well("63 and 1, or 62 and 63", x, x.next(0, 0), 0);
+        x.want(0, 62, 1, 1);
+        Due.well("63 and 1, or 62 and 62", x, x.next(0, 0), 1);
+        x = house(0, 2, 2);
+        for (int n = 0; n < 64; n++) x.want(0, n, 1, 1);
+        Due.well("64 and 64, or 64 and 0: the first", x, x.next(0, 0), 0);
+        x.want(0, 63, 1, 0);
+        Due.well("64 and 64, or 63 and 1", x, x.next(0, 0), 1);
+    }
+
     private static void nextTies() {
         Due.by("Of a KEY's COUPLETS that are UNKNOWN for a SHEET the first");
         HerbKey x = house(0, 0, 40);
@@ -932,6 +964,38 @@ public final class EdgeTest {
         Due.is("ahead of both", x.read(0, 0, 0), 0);
         x.undo();
         Due.refused("ahead of the row", x, x.read(0, 0, 0), 3);
+    }
+
+    /** What was made first, or put where nothing was, is gone behind undo(), and can be made again. */
+    private static void undoOfTheFirst() {
+        Due.by("All is as ahead of the latest CHANGE that was not taken back");
+        for (int kind = 0; kind < 4; kind++) {
+            HerbKey x = house(1, kind, 0);
+            Due.well("couplet 0", x, x.couplet(0, 0, 0, 1, 0), 0);
+            x.undo();
+            Due.refused("no couplet", x, x.ask(0, 0, 0), 3);
+            Due.well("couplet 0 again", x, x.couplet(0, 0, 0, 1, 0), 0);
+            Due.well("couplet 1", x, x.couplet(0, 0, 0, 0, 0), 1);
+            x.undo();
+            Due.well("couplet 0 stays", x, x.ask(0, 0, 0), 1);
+            Due.refused("no couplet 1", x, x.ask(0, 0, 1), 3);
+            if (kind < 2) x.lead(0, 0, true, 100); else x.want(0, 0, 0, 1);
+            Due.is("name 0", x.sure(0, 0), 0);
+            x.undo();
+            Due.is("no name", x.sure(0, 0), BAD);
+            x.undo();
+            x.undo();
+            Due.refused("no key", x, x.sure(0, 0), 1);
+            Due.well("key 0 again", x, x.key(kind), 0);
+        }
+        HerbKey x = house(0, 4, 0);
+        x.key(0);
+        x.couplet(1, 0, 0, 0, 0);
+        x.lead(1, 0, true, 105);
+        x.join(0, 1, 1);
+        Due.is("joined", x.names(0, 0), 1);
+        x.undo();
+        Due.is("of none", x.names(0, 0), 0);
     }
 
     private static void undoKeepsRowAndProof() {

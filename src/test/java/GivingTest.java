@@ -35,6 +35,7 @@ public final class GivingTest {
         partedByBranching();
         partedByTable();
         partedByWeights();
+        partedAtEachSlack();
         namesHad();
         Due.end("names are given as the terms tell");
     }
@@ -354,11 +355,15 @@ public final class GivingTest {
 
     /** Keys 0 and 1, tables that want states: name 5 of both, name 6 of key 0, name 7 of key 1; key 2 joins them. */
     private static HerbKey joined(int wantedBy0, int wantedBy1) {
+        return joined(5, wantedBy0, wantedBy1);
+    }
+
+    private static HerbKey joined(int name, int wantedBy0, int wantedBy1) {
         HerbKey x = house(0, 2, 4);
         x.key(2);
         for (int c = 0; c < 4; c++) x.couplet(1, 0, c, 1, 0);
-        for (int c = 0; c < wantedBy0; c++) x.want(0, 5, c, 1);
-        for (int c = 0; c < wantedBy1; c++) x.want(1, 5, c, 0);
+        for (int c = 0; c < wantedBy0; c++) x.want(0, name, c, 1);
+        for (int c = 0; c < wantedBy1; c++) x.want(1, name, c, 0);
         x.want(0, 6, 0, 0);
         x.want(1, 7, 0, 0);
         x.key(4);
@@ -388,23 +393,25 @@ public final class GivingTest {
     private static void joinedSource() {
         Due.by("of a JOINED one that of its first KEY, if this gives it with as few UNKNOWNS as the second one, or that "
                 + "does not give it; else of the second one (and so on).");
-        for (int a = 0; a < 4; a++) {
-            for (int b = 0; b < 4; b++) {
-                if (a + b == 0) continue;
-                HerbKey x = joined(a, b);
-                x.join(2, 0, 1);
-                x.key(4);
-                x.join(3, 2, 0);
-                boolean first = a != 0 && (b == 0 || a <= b);
-                for (int key = 2; key < 4; key++) {
-                    int n = x.names(key, 0);
-                    for (int i = 0; i < n; i++) {
-                        if (x.name(i) != 5) continue;
-                        Due.well("pick", x, x.pick(i), first ? a : b);
-                        Due.is("source of " + a + " and " + b, x.proof(-1), first ? 0 : 1);
-                        Due.is("right", x.check(), 1);
-                    }
-                }
+        int[] names = {0, 5, 63};
+        for (int name : names) for (int a = 0; a < 4; a++) for (int b = 0; b < 4; b++) joinedSource(name, a, b);
+    }
+
+    private static void joinedSource(int name, int a, int b) {
+        if (a + b == 0) return;
+        HerbKey x = joined(name, a, b);
+        x.join(2, 0, 1);
+        x.key(4);
+        x.join(3, 2, 0);
+        boolean first = a != 0 && (b == 0 || a <= b);
+        for (int key = 2; key < 4; key++) {
+            int n = x.names(key, 0);
+            Due.is("names", n, 3);
+            for (int i = 0; i < n; i++) {
+                if (x.name(i) != name) continue;
+                Due.well("pick", x, x.pick(i), first ? a : b);
+                Due.is("source of " + a + " and " + b, x.proof(-1), first ? 0 : 1);
+                Due.is("right", x.check(), 1);
             }
         }
     }
@@ -429,6 +436,17 @@ public final class GivingTest {
         rowIs(x, 0, 0, 0, 11);
         x.lead(0, 0, false, 109);
         rowIs(x, 0, 0, 0);
+        // By YES over 2 and 4, by NO over 3 alone, all unknown; couplet 1 is none of these.
+        x = house(0, 0, 5);
+        x.lead(0, 0, true, 2);
+        x.lead(0, 0, false, 3);
+        x.lead(0, 2, true, 4);
+        x.lead(0, 4, true, 109);
+        x.lead(0, 3, true, 109);
+        gives(x, 0, 0, 9, 2);
+        rowIs(x, 0, 0, 2, 15);
+        x.lead(0, 2, false, 109);
+        rowIs(x, 0, 0, 3, 10);
     }
 
     private static void rowByYes() {
@@ -683,7 +701,11 @@ public final class GivingTest {
         }
         x.slack(0, 99);
         x.forge(2, 11);
-        Due.well("what is taken has to be as wanted, whatever the slack", x, x.check(), 0);
+        Due.well("taken as YES, but NO is wanted, whatever the slack", x, x.check(), 0);
+        x.want(0, 9, 2, 1);
+        Due.well("taken as YES, as wanted", x, x.check(), 1);
+        x.forge(2, 10);
+        Due.well("taken as NO, but YES is wanted, whatever the slack", x, x.check(), 0);
     }
 
     // ---- 4: names parted, names had
@@ -749,6 +771,27 @@ public final class GivingTest {
                     Due.is("twins", x.twins(0), told ? 0 : 1);
                     Due.is("a name not known", x.parted(0, 0, 1), 1);
                 }
+            }
+        }
+    }
+
+    /**
+     * Both names want what weighs w each alike, one of them one thing more, of weight 1: ANSWERS part them if
+     * some of the WEIGHTS alike come to the SLACK exactly.
+     */
+    private static void partedAtEachSlack() {
+        Due.by("Two NAMES are PARTED, if by some such ANSWERS it gives one and not the other.");
+        for (int w = 0; w <= 9; w++) {
+            HerbKey x = house(0, 3, 40);
+            for (int c = 0; c < 40; c++) {
+                if (w != 1 && c < 39) x.weigh(0, c, w);
+                x.want(0, 63, c, 1);
+                if (c < 39) x.want(0, 0, c, 1);
+            }
+            for (int slack = 0; slack <= 99; slack++) {
+                x.slack(0, slack);
+                boolean told = w == 0 ? slack == 0 : slack % w == 0 && slack / w <= 39;
+                Due.is("weights " + w + ", slack " + slack, x.parted(0, 0, 63), told ? 1 : 0);
             }
         }
     }

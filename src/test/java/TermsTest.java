@@ -51,6 +51,7 @@ public final class TermsTest {
         whatIsLeft();
         wholePart();
         givesName();
+        givesNameJoined();
         scoreAsked();
         ringsOfKeys();
         longestRings();
@@ -472,15 +473,18 @@ public final class TermsTest {
 
     private static void keysAsked() {
         Due.by("6 there is no such KEY");
-        HerbKey x = wide();
-        for (int i = 1; i < 40; i++) x.key(3);
-        int[] asked = {-1, 1, 38, 39, 40, 60};
-        for (int ask = 7; ask < 9; ask++) {
-            for (int p : asked) {
-                int c = x.couplet(0, ask, p, 63, 0);
-                boolean there = p > 0 && p < 40;
-                Due.well("ask " + ask + " of key " + p, x, x.cause(0, 0, c), there ? 0 : 6);
-                Due.is("ask " + ask + " of key " + p, x.ask(0, 0, c), !there ? 2 : ask == 7 ? 0 : 1);
+        for (int by = 0; by < 40; by += 39) {
+            HerbKey x = new HerbKey();
+            x.sheet();
+            for (int i = 0; i < 40; i++) x.key(3);
+            int[] asked = {-1, 39 - by, 1, 38, 40, 60};
+            for (int ask = 7; ask < 9; ask++) {
+                for (int p : asked) {
+                    int c = x.couplet(by, ask, p, 63, 0);
+                    boolean there = p >= 0 && p < 40;
+                    Due.well("ask " + ask + " of key " + p, x, x.cause(by, 0, c), there ? 0 : 6);
+                    Due.is("ask " + ask + " of key " + p, x.ask(by, 0, c), !there ? 2 : ask == 7 ? 0 : 1);
+                }
             }
         }
     }
@@ -750,6 +754,35 @@ public final class TermsTest {
                 Due.is("not given", x.ask(0, 0, 0), 0);
             }
         }
+    }
+
+    /** Key 2 joins keys 0 and 1, which give name 5 if state 0, or state 1, is a 1; key 3 asks key 2 for it. */
+    private static void givesNameJoined() {
+        Due.by("YES if it gives it with 0 UNKNOWNS, NO if it does not give it, else UNKNOWN (8).");
+        HerbKey x = wide();
+        x.key(2);
+        x.key(4);
+        x.key(3);
+        x.couplet(3, 7, 2, 5, 0);
+        Due.is("joined of none", x.ask(3, 0, 0), 0);
+        x.couplet(0, 0, 0, 1, 0);
+        x.couplet(1, 0, 1, 1, 0);
+        x.lead(0, 0, true, 105);
+        x.want(1, 5, 0, 1);
+        Due.well("join", x, x.join(2, 0, 1), 2);
+        Due.is("neither gives it", x.ask(3, 0, 0), 0);
+        x.state(0, 1, 1);
+        Due.is("the second gives it", x.ask(3, 0, 0), 1);
+        x.row(0, 0, 1);
+        Due.is("the second is not sure", x.cause(3, 0, 0), 8);
+        x.state(0, 0, 1);
+        Due.is("the first gives it", x.ask(3, 0, 0), 1);
+        x.drop(0);
+        Due.is("the second is not sure", x.cause(3, 0, 0), 8);
+        x.drop(1);
+        Due.is("neither is there", x.ask(3, 0, 0), 0);
+        x.drop(2);
+        Due.is("no such key", x.cause(3, 0, 0), 6);
     }
 
     private static void scoreAsked() {

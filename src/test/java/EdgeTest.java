@@ -56,6 +56,7 @@ public final class EdgeTest {
         undoOfTheFirst();
         undoKeepsRowAndProof();
         changesAsBefore();
+        statusNeverRefused();
         changesOfEach();
         digestOfNothing();
         digestWraps();
@@ -926,7 +927,8 @@ public final class EdgeTest {
     }
 
     private static void trace() {
-        Due.by("Whose body an act of a KEY is");
+        Due.by("Whose body an act of a KEY is: 0 of what all KEYS, or all with COUPLETS, are, 1 BRANCHING's, 2 REGIONAL's, 3 TABLE's, "
+                + "4 WEIGHTED's, 5 JOINED's, 6 of an interface.");
         int[][] bodies = {{1, 6, 0, 0}, {2, 6, 0, 0}, {3, 3, 0, 0}, {3, 4, 4, 0}, {5, 6, 6, 5}};
         HerbKey x = new HerbKey();
         for (int kind = 0; kind < 5; kind++) {
@@ -1037,6 +1039,25 @@ public final class EdgeTest {
         }
     }
 
+    private static void statusNeverRefused() {
+        Due.by("See 5. Never refused itself.");
+        HerbKey x = new HerbKey();
+        Due.is("at first", x.status(), 0);
+        Due.is("of nothing", x.drop(0), BAD);
+        for (int i = 0; i < 3; i++) Due.is("stays", x.status(), 1);
+        Due.by("How many CHANGES can be taken back. Never refused.");
+        Due.is("none", x.changes(), 0);
+        Due.is("stays", x.status(), 1);
+        x.sheet();
+        Due.is("not refused", x.status(), 0);
+        Due.is("one", x.changes(), 1);
+        x.undo();
+        Due.is("none", x.changes(), 0);
+        x.undo();
+        Due.is("none still", x.changes(), 0);
+        Due.is("of undo()", x.status(), 7);
+    }
+
     private static void changesOfEach() {
         Due.by("CHANGES are sheet, lose, row, state, measure, lack, code, merge, key, drop, couplet, lead, join, region, want, weigh, "
                 + "slack, learn");
@@ -1084,7 +1105,8 @@ public final class EdgeTest {
     }
 
     private static void digestOfNothing() {
-        Due.by("d, of 7, goes over x: d * 31 + x, wrapping: how many SHEETS were made");
+        Due.by("d, of 7, goes over x: d * 31 + x, wrapping: how many SHEETS were made; of each: 0 if it is none, else 1, and of each ROW, "
+                + "STATES first: -1 if it is missing, else its length, and read() of each PLACE;");
         HerbKey x = new HerbKey();
         Due.is("nothing", x.digest(), new Fold().add(0, 0).d);
         x.sheet();
@@ -1114,7 +1136,9 @@ public final class EdgeTest {
 
     /** A great house of all kinds: its sum wraps some thousand times. */
     private static void digestWraps() {
-        Due.by("JOINED: 0 for COUPLETS, and its two (-1 at first). Answers d. Never refused.");
+        Due.by("how many KEYS were made; of each: -1 if it is none, else its KIND, and its COUPLETS: how many, then of each ask, p, q, r, and "
+                + "LEADS for NO and YES (BRANCHING), WEIGHT (WEIGHTED); the REGION (REGIONAL); of each NAME, and in it of each COUPLET, its "
+                + "WANT (TABLE); SLACK (WEIGHTED); JOINED: 0 for COUPLETS, and its two (-1 at first). Answers d. Never refused.");
         HerbKey x = new HerbKey();
         List<Long> xs = new ArrayList<>();
         long[][] rows = {{-128, 127, 0}, {Long.MAX_VALUE, 8, -8, Long.MIN_VALUE}, {65535}};

@@ -72,6 +72,7 @@ public final class RefusalTest {
     }
 
     private static void all(String name, int[] order, House house, Effect effect, Call call, Answer due, Slot... slots) {
+        Due.by(sentence(name));
         List<int[]> done = new ArrayList<>();
         done.add(new int[0]);
         List<List<Integer>> whys = new ArrayList<>();
@@ -96,6 +97,55 @@ public final class RefusalTest {
         }
         for (int i = 0; i < done.size(); i++) {
             one(name, first(order, whys.get(i)), house, effect, call, due, done.get(i));
+        }
+    }
+
+    /** The sentence that tells why a call is refused. */
+    private static String sentence(String name) {
+        switch (name.split(" ")[0]) {
+            case "sheet": return "A new SHEET; answers its number. 8: 40 were made.";
+            case "lose": return "A SHEET is none from now on; answers how many there are. 2.";
+            case "row": return "answers n. 2, 3, 5: n is not -1 to 40.";
+            case "state": return "A STATE, answered. 2, 3, 5.";
+            case "measure": return "answers n. 2, 3; 5: n is not -16777216 to 16777216, or e not -20 to 100.";
+            case "lack": return "answers how. 2, 3; 5: no such how.";
+            case "code": return "A CODE, answered. 2, 3, 5.";
+            case "read": return "the greatest or least long for ENDLESS ones. 2, 3.";
+            case "merge": return "Answers how many ROWS and MEASURES came (0, too, if a is b). 2.";
+            case "key": return "answers its number. 5: no such KIND; 8: 40 were made.";
+            case "drop": return "A KEY is none from now on; answers how many there are. 1.";
+            case "couplet": return "One more COUPLET; answers its number. 1; 4: JOINED; 5: no such ASK, or p, q, r not as told; "
+                    + "8: it has 40; 6.";
+            case "lead": return "answers to. 1, 4; 3: no such COUPLET, or to is none of these; 6: a COUPLET would come to itself by LEADS.";
+            case "join": return "(those that are there, each once). 1: one of the three; 4, 6.";
+            case "region": return "answers how many NAMES are in it. 1; 4: not REGIONAL.";
+            case "want": return "0 NO, 1 YES, 2 ANY; answers it. 1, 4; 3; 5.";
+            case "weigh": return "The WEIGHT of a WEIGHTED KEY's COUPLET, answered. 1, 4; 3; 5.";
+            case "slack": return "SLACK of a WEIGHTED KEY, answered. 1, 4; 5.";
+            case "learn": return "answers how many are not ANY. 1; 4; 3.";
+            case "score": return "The SCORE. 1; 4: not WEIGHTED; 3. (BAD may be one.)";
+            case "parts": return "one of two NAMES wants NO and the other YES. 1; 4; 3.";
+            case "ask": return "0 NO, 1 YES, 2 UNKNOWN. 1; 3 (JOINED, too).";
+            case "cause": return "The CAUSE of that ANSWER; 0 if it is not UNKNOWN. 1; 3.";
+            case "names": return "NAMES that a KEY gives for a SHEET: how many.";
+            case "sure": return "with 0 UNKNOWNS; else BAD, and 0 is STATUS. 1.";
+            case "compare": return "are NO for one of two SHEETS and YES for the other. 1; 4: JOINED.";
+            case "next": return "1; 4: JOINED; 7: none is UNKNOWN. (Behind 1 and 4, here.)";
+            case "name": return "The i-th NAME of that row (from 0); 3: there is none (none at first).";
+            case "unknowns": return "Its UNKNOWNS. 3.";
+            case "pick": return "7: that KEY is none now, or does not give the NAME any more; 3: there is no NAME i. (3 ahead of 7, here.)";
+            case "proof": return "7: no PROOF was taken; 3.";
+            case "forge": return "An ENTRY becomes v, answered. 7; 3: no ENTRY j (from 0); 5: v is not 0 to 255.";
+            case "check": return "1 if the PROOF is RIGHT, otherwise 0. 7: no PROOF was taken.";
+            case "unreached": return "(COUPLET 0 is come to). 1; 4.";
+            case "depth": return "it being one (0 without it). 1; 4.";
+            case "parted": return "Whether two NAMES are PARTED by a KEY: 1 or 0. 1; 4: JOINED; 3.";
+            case "twins": return "How many pairs of NAMES that a KEY HAS are not PARTED. 1; 4: JOINED.";
+            case "trace": return "3 the SOURCE (JOINED its own; others that of all KEYS). 1; 3: no such act.";
+            case "changes": return "How many CHANGES can be taken back. Never refused.";
+            case "digest": return "Answers d. Never refused.";
+            case "undo": return "answers how many can be taken back still. 7: none.";
+            default: return "The first of these in the order 7, 1, 2, 4, 3, 5, 8, 6.";
         }
     }
 
@@ -191,7 +241,6 @@ public final class RefusalTest {
     // ---- the calls
 
     private static void sheets() {
-        Due.by("The first of these in the order 7, 1, 2, 4, 3, 5, 8, 6");
         House h = RefusalTest::house;
         Slot sheet = slot(fine(0, 1), NO_SUCH_SHEET);
         all("sheet", h, Effect.CHANGE, (x, a) -> x.sheet(), a -> 3);
@@ -387,19 +436,16 @@ public final class RefusalTest {
     }
 
     private static void fullHouse() {
-        Due.by("8: 40 were made");
         House h = RefusalTest::full;
         all("sheet", h, Effect.CHANGE, (x, a) -> { if (a[0] == 8) return x.sheet(); return x.lose(0); }, a -> 38,
                 slot(fine(0), wrong(8, 8)));
-        Due.by("5: no such KIND; 8: 40 were made");
         all("key", h, Effect.CHANGE, (x, a) -> x.key(a[0]), null, slot(fine(), wrong(0, 8, 4, 8, -1, 5, 5, 5)));
-        all("key", h, Effect.CHANGE, (x, a) -> x.drop(a[0]), a -> 38, slot(fine(0, 38), wrong(39, 1, 40, 1)));
+        all("drop", h, Effect.CHANGE, (x, a) -> x.drop(a[0]), a -> 38, slot(fine(0, 38), wrong(39, 1, 40, 1)));
         all("row", h, Effect.CHANGE, (x, a) -> x.row(a[0], 0, 1), a -> 1, slot(fine(0, 38), wrong(39, 2, 40, 2)));
     }
 
     /** No sheets, no keys, no proof, no changes: all that names one of these is refused. */
     private static void emptyHouse() {
-        Due.by("No SHEETS, no KEYS, no PROOF, no CHANGES");
         House h = HerbKey::new;
         Call[] noKey = {(x, a) -> x.drop(a[0]), (x, a) -> x.couplet(a[0], 99, 99, 99, 99), (x, a) -> x.lead(a[0], 9, true, 99),
             (x, a) -> x.join(a[0], a[0], a[0]), (x, a) -> x.region(a[0], 1), (x, a) -> x.want(a[0], 99, 9, 9),
@@ -409,13 +455,13 @@ public final class RefusalTest {
             (x, a) -> x.unreached(a[0]), (x, a) -> x.depth(a[0]), (x, a) -> x.parted(a[0], 99, 99), (x, a) -> x.twins(a[0]),
             (x, a) -> x.parts(a[0], 99, 99), (x, a) -> x.trace(a[0], 99)};
         for (int i = 0; i < noKey.length; i++) {
-            all("key's call " + i, h, Effect.NOTHING, noKey[i], null, slot(fine(), wrong(0, 1, -1, 1, 40, 1)));
+            all("of no key, call " + i, h, Effect.NOTHING, noKey[i], null, slot(fine(), wrong(0, 1, -1, 1, 40, 1)));
         }
         Call[] noSheet = {(x, a) -> x.lose(a[0]), (x, a) -> x.row(a[0], 9, 99), (x, a) -> x.state(a[0], 9, 999),
             (x, a) -> x.measure(a[0], 9, MAX, 999), (x, a) -> x.lack(a[0], 9, 9), (x, a) -> x.code(a[0], 9, -1),
             (x, a) -> x.read(a[0], 9, 9), (x, a) -> x.merge(a[0], a[0])};
         for (int i = 0; i < noSheet.length; i++) {
-            all("sheet's call " + i, h, Effect.NOTHING, noSheet[i], null, slot(fine(), wrong(0, 2, -1, 2, 40, 2)));
+            all("of no sheet, call " + i, h, Effect.NOTHING, noSheet[i], null, slot(fine(), wrong(0, 2, -1, 2, 40, 2)));
         }
         Slot none = slot(fine(), wrong(0, 7, -1, 7, -4, 7, MAX, 7));
         all("proof", h, Effect.NOTHING, (x, a) -> x.proof(a[0]), null, none);
@@ -428,23 +474,33 @@ public final class RefusalTest {
         all("pick", PICK_ORDER, h, Effect.NOTHING, (x, a) -> x.pick(a[0]), null, noName);
     }
 
+    /** Of the house with a full key: a call that is not refused, and one for each reason. */
+    private static final Call[] REASONS = {(x, a) -> x.read(0, 0, 0), (x, a) -> x.drop(5), (x, a) -> x.lose(2), (x, a) -> x.name(9),
+        (x, a) -> x.slack(0, 1), (x, a) -> x.slack(3, 100), (x, a) -> x.lead(0, 1, true, 1), (x, a) -> x.next(0, 0),
+        (x, a) -> x.couplet(7, 0, 0, 0, 0)};
+
     /** Whatever the status was, the next call that can be refused sets it, and those that cannot leave it. */
     private static void everyReason() {
-        Due.by("STATUS is that of the latest call of those that can be refused; 0: it was not");
-        Call[] withWhy = {(x, a) -> x.read(0, 0, 0), (x, a) -> x.drop(5), (x, a) -> x.lose(2), (x, a) -> x.name(9),
-            (x, a) -> x.slack(0, 1), (x, a) -> x.slack(3, 100), (x, a) -> x.lead(0, 1, true, 1), (x, a) -> x.next(0, 0),
-            (x, a) -> x.couplet(7, 0, 0, 0, 0)};
+        Due.by("WHY a call was refused (BAD then, and nothing but STATUS is changed): 1 no such KEY. 2 no such SHEET. 3 no such COUPLET, NAME, "
+                + "PLACE, kind of ROW, ENTRY, act; a ROW that is missing. 4 the KEY is not of that KIND. 5 a number not as told. 6 a ring of "
+                + "LEADS, or a KEY that would ask itself. 7 there is nothing such. 8 too many.");
+        for (int why = 1; why < 9; why++) {
+            HerbKey x = withFullKey();
+            Due.refused("reason " + why, x, REASONS[why].on(x, null), why);
+            Due.same("reason " + why + " changes nothing", x, withFullKey());
+        }
+        Due.by("STATUS is that of the latest call of those that can be refused; 0: it was not.");
         for (int was = 0; was < 9; was++) {
             for (int why = 0; why < 9; why++) {
                 HerbKey x = withFullKey();
-                withWhy[was].on(x, null);
+                REASONS[was].on(x, null);
                 Due.is("status", x.status(), was);
                 Due.is("status again", x.status(), was);
                 x.changes();
                 Due.is("behind changes()", x.status(), was);
                 x.digest();
                 Due.is("behind digest()", x.status(), was);
-                withWhy[why].on(x, null);
+                REASONS[why].on(x, null);
                 Due.is("status " + why + " behind " + was, x.status(), why);
             }
         }

@@ -33,6 +33,7 @@ public final class GivingTest {
         rightTable();
         rightSlack();
         partedByBranching();
+        partedByFullBranching();
         partedByTable();
         partedByWeights();
         partedAtEachSlack();
@@ -732,6 +733,32 @@ public final class GivingTest {
             Due.well("both beyond the region", x, x.parted(0, 0, 63), 0);
             x.region(0, 1L << 63);
             Due.well("one in the region", x, x.parted(0, 63, 0), 1);
+        }
+    }
+
+    /** All 40 couplets come to, with 41 leads to names, and then fewer and fewer. */
+    private static void partedByFullBranching() {
+        Due.by("NAMES that it HAS are those of LEADS (of COUPLETS never come to, and beyond its REGION, too), or those KNOWN.");
+        for (int kind = 0; kind < 2; kind++) {
+            HerbKey x = house(0, kind, 40);
+            for (int c = 0; c < 39; c++) {
+                x.lead(0, c, true, c + 1);
+                x.lead(0, c, false, 100 + c);
+            }
+            x.lead(0, 39, true, 163);
+            x.lead(0, 39, false, 139);
+            Due.well("all come to", x, x.unreached(0), 0);
+            Due.well("all names parted", x, x.twins(0), 0);
+            Due.well("the first and the last", x, x.parted(0, 0, 63), 1);
+            Due.well("41 names", x, x.names(0, 0), 41);
+            Due.well("the last name, with 40 unknowns", x, x.unknowns(40), 40);
+            for (int c = 38; c >= 0; c--) {
+                x.lead(0, c, true, -1);
+                int lost = 40 - c;
+                Due.well("names never come to", x, x.twins(0), lost * (lost - 1) / 2);
+                Due.well("two of them", x, x.parted(0, 63, 39), 0);
+                Due.well("one of them", x, x.parted(0, 39, c), 1);
+            }
         }
     }
 

@@ -863,6 +863,9 @@ public final class TermsTest {
         Due.refused("1 asks 39", x, x.join(1, 0, 39), 6);
         Due.well("38 asks all that are less", x, x.couplet(38, 7, 0, 0, 0), 1);
         Due.well("39 asks all others", x, x.join(39, 38, 0), 39);
+        Due.well("names of a key that asks all others", x, x.names(39, 0), 0);
+        Due.well("sure", x, x.sure(39, 0), BAD);
+        Due.well("next", x, x.next(38, 0), 0);
         x.drop(20);
         Due.well("those that are there", x, x.join(39, 38, 38), 19);
         Due.well("no ring any more", x, x.join(1, 0, 39), 20);

@@ -871,13 +871,9 @@ public final class HerbKey {
 
         /** Below 0, 0 or above 0, as n * 2 ^ e is below, the same as or above q * 2 ^ r. */
         static int order(long n, int e, long q, int r) {
-            if (e >= r) return Long.compare(raised(n, e - r), q);
-            return Long.compare(n, raised(q, r - e));
-        }
-
-        /** Both sides are ints: raised by 32 one is already beyond the other, and still a long. */
-        static long raised(long n, int by) {
-            return n << Math.min(by, 32);
+            // Both are ints: raised by 32 one is already beyond the other, and still a long.
+            if (e >= r) return Long.compare(n << Math.min(e - r, 32), q);
+            return Long.compare(n, q << Math.min(r - e, 32));
         }
 
         /** The whole part of n * 2 ^ e, or the nearest long. */
@@ -891,13 +887,11 @@ public final class HerbKey {
             return n < 0 ? LEAST_LONG : MOST_LONG;
         }
 
-        static boolean isMultiple(long n, int e, long q, int r) {
-            if (n == 0) return true;
-            int zerosOfN = Walk.lowest(n);
-            int zerosOfQ = Walk.lowest(q);
-            long oddOfQ = q >> zerosOfQ;
-            if (oddOfQ == 0) return false;
-            return e + zerosOfN >= r + zerosOfQ && (n >> zerosOfN) % oddOfQ == 0;
+        /** Neither number, if not 0, can be halved more than 24 times: 25 steps tell as much as all. */
+        static boolean isMultiple(long n, int e, int q, int r) {
+            if (q < 1) return false;
+            if (e >= r) return (n << Math.min(e - r, 25)) % q == 0;
+            return n % ((long) q << Math.min(r - e, 25)) == 0;
         }
 
         static boolean leavesAtLeast(long n, int e, long q, long r) {
@@ -947,19 +941,15 @@ public final class HerbKey {
                     top--;
                 } else {
                     top++;
-                    open[top] = lowest(fresh);
-                    seen |= fresh & -fresh;
+                    long lowest = fresh & -fresh;
+                    open[top] = Long.bitCount(lowest - 1);
+                    seen |= lowest;
                 }
             }
         }
 
         boolean hasSeen(int i) {
             return i >= 0 && i < MOST_STOPS && (seen >> i & 1) != 0;
-        }
-
-        /** The number of the lowest bit that is set: 64 if none is. */
-        static int lowest(long bits) {
-            return Long.bitCount((bits & -bits) - 1);
         }
     }
 
@@ -1678,7 +1668,7 @@ public final class HerbKey {
             int sum = 0;
             long left = couplets;
             for (int c = 0; left != 0 && c < count; c++) {
-                if ((left & 1) != 0) sum += weightOf(c);
+                if ((left & 1) != 0) sum += weights[c];
                 left >>>= 1;
             }
             return sum;

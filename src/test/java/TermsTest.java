@@ -639,6 +639,14 @@ public final class TermsTest {
         Due.is("16777215 of itself", answer(16777215, -20, 4, 16777215, -20), 1);
         Due.is("16777215 * 2 ^ 100 of 5592405 * 2 ^ -20", answer(16777215, 100, 4, 5592405, -20), 1);
         Due.is("16777214 * 2 ^ 100 of 16777215 * 2 ^ -20", answer(16777214, 100, 4, 16777215, -20), 0);
+        for (int far = 0; far <= 120; far++) {
+            Due.is("3 of 3 over " + far, answer(3, -20, 4, 3, far - 20), far == 0 ? 1 : 0);
+            Due.is("-3 of 3 over -" + far, answer(-3, far - 20, 4, 3, -20), 1);
+            Due.is("5 of 3 over -" + far, answer(5, far - 20, 4, 3, -20), 0);
+            Due.is("2 ^ 24 of 1 over " + far, answer(16777216, -20, 4, 1, far - 20), far <= 24 ? 1 : 0);
+            Due.is("1 of 2 ^ 24 over -" + far, answer(1, far - 20, 4, 16777216, -20), far >= 24 ? 1 : 0);
+            Due.is("0 of 1 over " + far, answer(0, -20, 4, 1, far - 20), 1);
+        }
     }
 
     private static void whatIsLeft() {
